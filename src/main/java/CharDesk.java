@@ -46,19 +46,19 @@ public final class CharDesk {
     private int textLength;
 
     private final int[] characters;
-    // One longer than the characters: behind the last one's place stands the text's length.
     private final int[] places;
     private int count;
-    private boolean hasReading;
+    // The length of the text that was read, or NONE when nothing is read.
+    private int readLength;
     private int faultPlace;
 
     public CharDesk() {
         text = new int[TEXT_LIMIT];
         characters = new int[TEXT_LIMIT];
-        places = new int[TEXT_LIMIT + 1];
+        places = new int[TEXT_LIMIT];
         textLength = 0;
         count = 0;
-        hasReading = false;
+        readLength = NONE;
         faultPlace = NONE;
     }
 
@@ -87,8 +87,7 @@ public final class CharDesk {
         forgetReading();
         int fault = readText();
         if (fault == NO_FAULT) {
-            places[count] = textLength;
-            hasReading = true;
+            readLength = textLength;
         } else {
             count = 0;
         }
@@ -105,10 +104,10 @@ public final class CharDesk {
     }
 
     public int placeOf(int i) {
-        if (!hasReading || i < 0 || i > count) {
-            return NONE;
+        if (hasCharacter(i)) {
+            return places[i];
         }
-        return places[i];
+        return i == count ? readLength : NONE;
     }
 
     public int kind(int c) {
@@ -177,7 +176,7 @@ public final class CharDesk {
 
     private void forgetReading() {
         count = 0;
-        hasReading = false;
+        readLength = NONE;
         faultPlace = NONE;
     }
 
@@ -300,7 +299,7 @@ public final class CharDesk {
 
     private boolean hasStretch(int i, int n) {
         // The difference can't overflow as the sum could: count and n are both 0 or more.
-        return hasReading && n >= 0 && i >= 0 && i <= count - n;
+        return readLength != NONE && n >= 0 && i >= 0 && i <= count - n;
     }
 
     private static boolean belongsToRun(int kind, int c) {

@@ -1,5 +1,13 @@
+import java.util.ArrayList;
+import java.util.List;
+
 /** Counts the answers that are not the ones due, and makes objects that have read a text. */
 final class Check {
+    /** What an object's answers are promised for. */
+    static final int CALLS = 512;
+    static final int LEAST = Integer.MIN_VALUE;
+    static final int MOST = Integer.MAX_VALUE;
+
     private static int wrong = 0;
     private static int asked = 0;
 
@@ -23,6 +31,23 @@ final class Check {
         if (wrong != 0) {
             System.exit(1);
         }
+    }
+
+    /** A new object every 500 steps, as an object's answers are promised for so many calls alone. */
+    static CharDesk renewed(CharDesk desk, int step) {
+        return step % 500 == 0 ? new CharDesk() : desk;
+    }
+
+    /** Numbers below 0 and above 10FFFF, such too as are characters but for one high bit. */
+    static List<Integer> beyondCharacters() {
+        List<Integer> numbers = new ArrayList<>(
+            List.of(LEAST, LEAST + 1, -0x10FFFF, -0x61, -1, 0x110000, 0x1FFFFF, MOST));
+        for (int bit = 21; bit < 32; bit++) {
+            for (int c : new int[] {0, 0x9, 0x20, 0x61, 0xE9, 0x20AC, 0x10000}) {
+                numbers.add(1 << bit | c);
+            }
+        }
+        return numbers;
     }
 
     static void putBytes(CharDesk desk, int... bytes) {
@@ -56,6 +81,15 @@ final class Check {
         return desk;
     }
 
+    /** Reads the bytes on a new object, and wants that fault there and nothing read. */
+    static void fault(String what, int fault, int place, int... bytes) {
+        CharDesk desk = new CharDesk();
+        putBytes(desk, bytes);
+        due(what + ": read()", desk.read(), -1 - fault);
+        due(what + ": place()", desk.place(), place);
+        nothingRead(what, desk);
+    }
+
     static void characters(String what, CharDesk desk, int... want) {
         for (int i = 0; i < want.length; i++) {
             due(what + ": at(" + i + ")", desk.at(i), want[i]);
@@ -74,7 +108,7 @@ final class Check {
     }
 
     static void nothingRead(String what, CharDesk desk) {
-        for (int i : new int[] {Integer.MIN_VALUE, -1, 0, 1, 999, 1000, 1001, Integer.MAX_VALUE}) {
+        for (int i : new int[] {LEAST, -1, 0, 1, 999, 1000, 1001, MOST}) {
             due(what + ": at(" + i + ")", desk.at(i), -1);
             due(what + ": placeOf(" + i + ")", desk.placeOf(i), -1);
             for (int kind = -1; kind <= 3; kind++) {
