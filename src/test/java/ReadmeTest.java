@@ -1,13 +1,13 @@
 /** The calls that README.md shows, with the answers that it tells. */
 public final class ReadmeTest {
     public static void main(String[] args) {
-        example();
-        exampleOfAFault();
+        CharDesk desk = new CharDesk();
+        example(desk);
+        exampleOfAFault(desk);
         Check.finish();
     }
 
-    private static void example() {
-        CharDesk desk = new CharDesk();
+    private static void example(CharDesk desk) {
         Check.due("put", desk.put(0x610D0AL, 3), true);
         Check.due("character", desk.character(0x20AC), true);
         Check.due("read()", desk.read(), 3);
@@ -20,8 +20,7 @@ public final class ReadmeTest {
         Check.due("bytes(E9)", desk.bytes(0xE9), 0x02C3A90000000000L);
     }
 
-    private static void exampleOfAFault() {
-        CharDesk desk = new CharDesk();
+    private static void exampleOfAFault(CharDesk desk) {
         Check.due("put", desk.put(0x6162C3L, 3), true);
         Check.due("read()", desk.read(), -2);
         Check.due("place()", desk.place(), 2);
